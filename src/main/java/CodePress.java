@@ -286,6 +286,7 @@ public final class CodePress {
 
     /** Rows of instructions: two halves for texts, then what runs press; and the table of DEFS. */
     private static final class Code {
+        // plain ones
         static final int NUM = 0;
         static final int TRUTH = 1;
         static final int NAME = 2;
@@ -296,31 +297,33 @@ public final class CodePress {
         static final int PAIR = 7;
         static final int FST = 8;
         static final int SND = 9;
-        static final int OPEN = 10;
-        static final int RUN = 11;
-        static final int FN = 12;
-        static final int ENDFN = 13;
-        static final int REC = 14;
-        static final int ARG = 15;
-        static final int ENDREC = 16;
-        static final int BIND = 17;
-        static final int UNBIND = 18;
-        static final int TEST = 19;
-        static final int ELSE = 20;
-        static final int ENDIF = 21;
-        static final int CLOSE = 22;
-        static final int KEEP = 23;
-        static final int KEPT = 24;
-        static final int IN = 25;
-        static final int ENDCLOSE = 26;
-        static final int QUOTE = 27;
-        static final int ENDQUOTE = 28;
-        static final int SPLICE = 29;
-        static final int ENDSPLICE = 30;
-        static final int DEF = 31;
-        static final int PARAM = 32;
-        static final int ENDDEF = 33;
-        static final int STOP = 34;
+        static final int TEST = 10;
+        static final int ELSE = 11;
+        static final int ENDIF = 12;
+        static final int STOP = 13;
+        // from here on they tell NAMES and make FUNCTIONS
+        static final int FN = 14;
+        static final int ENDFN = 15;
+        static final int REC = 16;
+        static final int ARG = 17;
+        static final int ENDREC = 18;
+        static final int BIND = 19;
+        static final int UNBIND = 20;
+        static final int DEF = 21;
+        static final int PARAM = 22;
+        static final int ENDDEF = 23;
+        // from here on they belong to the stages
+        static final int CLOSE = 24;
+        static final int KEEP = 25;
+        static final int KEPT = 26;
+        static final int IN = 27;
+        static final int ENDCLOSE = 28;
+        static final int QUOTE = 29;
+        static final int ENDQUOTE = 30;
+        static final int SPLICE = 31;
+        static final int ENDSPLICE = 32;
+        static final int OPEN = 33;
+        static final int RUN = 34;
         static final int ENDRUN = 35;
 
         // a TOKEN makes two instructions at most
@@ -358,6 +361,14 @@ public final class CodePress {
         void startDefs(int half) {
             known = half == 0 ? 0 : 1;
             defCount[known] = 0;
+        }
+
+        boolean isTelling(int i) {
+            return op[i] >= FN && op[i] < CLOSE;
+        }
+
+        boolean isStaged(int i) {
+            return op[i] >= CLOSE;
         }
 
         int emit(int what, int place) {
@@ -632,10 +643,12 @@ public final class CodePress {
         private void expectName(boolean tooMany) {
             name = lexer.name;
             nameAt = lexer.at;
-            if (lexer.kind == Lexer.NAME && tooMany) {
+            if (lexer.kind != Lexer.NAME) {
+                fail(FAULT_FORM);
+            } else if (tooMany) {
                 fail(FAULT_MANY);
             } else {
-                expect(Lexer.NAME);
+                take();
             }
         }
 
@@ -1036,7 +1049,8 @@ public final class CodePress {
 
     /** The second round: goes along the instructions with a row of TYPES and a row of known NAMES. */
     private static final class Typer {
-        static final int ROOM = 1000;
+        // 24 that are open, and a close among them has eight NAMES at most
+        static final int ROOM = 512;
         static final int WALL = -1;
 
         final Code code;
@@ -1064,7 +1078,13 @@ public final class CodePress {
             fault = 0;
             place = NONE;
             for (int i = from; i < end && i < Code.ROOM && fault == 0; i++) {
-                checkOne(i);
+                if (code.isStaged(i)) {
+                    checkStaged(i);
+                } else if (code.isTelling(i)) {
+                    checkTelling(i);
+                } else {
+                    checkPlain(i);
+                }
             }
         }
 
@@ -1115,7 +1135,7 @@ public final class CodePress {
             told = Math.max(0, told - k);
         }
 
-        private void checkOne(int i) {
+        private void checkPlain(int i) {
             switch (code.op[i]) {
                 case Code.NUM:
                     push(Types.INT);
@@ -1133,14 +1153,17 @@ public final class CodePress {
                     checkApply(i);
                     break;
                 case Code.PAIR:
-                    int second = pop();
-                    pushMade(types.make(Types.PAIR, pop(), second), code.at[i]);
+                    int last = pop();
+                    pushMade(types.make(Types.PAIR, pop(), last), code.at[i]);
                     break;
                 case Code.FST:
+                    pushInner(Types.PAIR, i);
+                    break;
                 case Code.SND:
-                case Code.OPEN:
-                case Code.RUN:
-                    checkWord(i);
+                    int second = types.right[result()];
+                    pushInner(Types.PAIR, i);
+                    pop();
+                    push(second);
                     break;
                 case Code.TEST:
                     if (pop() != Types.BOOL) {
@@ -1153,7 +1176,6 @@ public final class CodePress {
                     }
                     break;
                 default:
-                    checkTelling(i);
             }
         }
 
@@ -1195,11 +1217,10 @@ public final class CodePress {
                     checkGiven(code.a[i], code.at[i]);
                     break;
                 default:
-                    checkStaging(i);
             }
         }
 
-        private void checkStaging(int i) {
+        private void checkStaged(int i) {
             switch (code.op[i]) {
                 case Code.KEEP:
                     checkKeep(i);
@@ -1235,6 +1256,14 @@ public final class CodePress {
                 case Code.ENDSPLICE:
                     level++;
                     pushInner(Types.CODE, i);
+                    break;
+                case Code.OPEN:
+                    pushInner(Types.BOX, i);
+                    break;
+                case Code.RUN:
+                    pushInner(Types.BOX, i);
+                    pushInner(Types.CODE, i);
+                    push(types.make(Types.BOX, pop(), Types.INT));
                     break;
                 default:
             }
@@ -1311,27 +1340,6 @@ public final class CodePress {
                 fail(FAULT_TYPE, code.at[i]);
             }
             push(types.right[f]);
-        }
-
-        private void checkWord(int i) {
-            switch (code.op[i]) {
-                case Code.FST:
-                    pushInner(Types.PAIR, i);
-                    break;
-                case Code.SND:
-                    int second = types.right[result()];
-                    pushInner(Types.PAIR, i);
-                    pop();
-                    push(second);
-                    break;
-                case Code.OPEN:
-                    pushInner(Types.BOX, i);
-                    break;
-                default:
-                    pushInner(Types.BOX, i);
-                    pushInner(Types.CODE, i);
-                    push(types.make(Types.BOX, pop(), Types.INT));
-            }
         }
 
         private void checkDef(int i) {
@@ -1421,15 +1429,15 @@ public final class CodePress {
             return i;
         }
 
-        int makeOver(int k, int w, int e) {
+        int makeOne(int k, int w, int e) {
             int i = make(k, w, 0);
             first[i] = e;
             measure(i, e);
             return i;
         }
 
-        int makeOver(int k, int w, int e, int f) {
-            int i = makeOver(k, w, e);
+        int makeTwo(int k, int w, int e, int f) {
+            int i = makeOne(k, w, e);
             second[i] = f;
             measure(i, f);
             return i;
@@ -1563,6 +1571,23 @@ public final class CodePress {
             cellD[i] = d;
             return i;
         }
+
+        private boolean isCell(int i) {
+            return i >= 0 && i < cells;
+        }
+
+        /** Of a pair the first, of a BOX what is in it. */
+        void pushFirst(int i) {
+            if (isCell(i)) {
+                push(cellA[i], cellB[i]);
+            }
+        }
+
+        void pushSecond(int i) {
+            if (isCell(i)) {
+                push(cellC[i], cellD[i]);
+            }
+        }
     }
 
     /** Goes along the instructions at the LEVELS above 0; and makes CODE instructions again. */
@@ -1587,6 +1612,16 @@ public final class CodePress {
 
         void build(int i) {
             begin(code.begins[i]);
+            if (code.isStaged(i)) {
+                buildStaged(i);
+            } else if (code.isTelling(i)) {
+                buildTelling(i);
+            } else {
+                buildPlain(i);
+            }
+        }
+
+        private void buildPlain(int i) {
             switch (code.op[i]) {
                 case Code.NUM:
                 case Code.TRUTH:
@@ -1601,34 +1636,16 @@ public final class CodePress {
                 case Code.APPLY:
                 case Code.PAIR:
                     int second = store.popVal();
-                    push(nodes.makeOver(code.op[i], code.a[i], store.popVal(), second));
+                    push(nodes.makeTwo(code.op[i], code.a[i], store.popVal(), second));
                     break;
                 case Code.FST:
                 case Code.SND:
-                case Code.OPEN:
-                case Code.RUN:
-                    push(nodes.makeOver(code.op[i], 0, store.popVal()));
+                    push(nodes.makeOne(code.op[i], 0, store.popVal()));
                     break;
                 case Code.ENDIF:
                     buildIf();
                     break;
-                case Code.QUOTE:
-                    begin(1);
-                    store.level++;
-                    break;
-                case Code.ENDQUOTE:
-                    endQuote();
-                    break;
-                case Code.SPLICE:
-                    begin(store.level - 1);
-                    store.level--;
-                    break;
-                case Code.ENDSPLICE:
-                    store.level++;
-                    push(nodes.makeOver(Code.SPLICE, 0, store.popVal()));
-                    break;
                 default:
-                    buildTelling(i);
             }
         }
 
@@ -1651,8 +1668,14 @@ public final class CodePress {
                     break;
                 case Code.UNBIND:
                     int second = store.popVal();
-                    push(nodes.makeOver(Code.BIND, untell(1), store.popVal(), second));
+                    push(nodes.makeTwo(Code.BIND, untell(1), store.popVal(), second));
                     break;
+                default:
+            }
+        }
+
+        private void buildStaged(int i) {
+            switch (code.op[i]) {
                 case Code.CLOSE:
                     begin(1);
                     break;
@@ -1661,6 +1684,26 @@ public final class CodePress {
                     break;
                 case Code.ENDCLOSE:
                     buildClose(code.a[i]);
+                    break;
+                case Code.QUOTE:
+                    begin(1);
+                    store.level++;
+                    break;
+                case Code.ENDQUOTE:
+                    endQuote();
+                    break;
+                case Code.SPLICE:
+                    // at LEVEL 1 it is no PART: a CODE's E will stand there
+                    begin(store.level > 1 ? 1 : 0);
+                    store.level--;
+                    break;
+                case Code.ENDSPLICE:
+                    store.level++;
+                    push(nodes.makeOne(Code.SPLICE, 0, store.popVal()));
+                    break;
+                case Code.OPEN:
+                case Code.RUN:
+                    push(nodes.makeOne(code.op[i], 0, store.popVal()));
                     break;
                 default:
             }
@@ -1702,7 +1745,7 @@ public final class CodePress {
         }
 
         private void buildFunction(int kind, int type, int told) {
-            int node = nodes.makeOver(kind, untell(told), store.popVal());
+            int node = nodes.makeOne(kind, untell(told), store.popVal());
             nodes.more[node] = type;
             push(node);
         }
@@ -1710,7 +1753,7 @@ public final class CodePress {
         private void buildIf() {
             int third = store.popVal();
             int second = store.popVal();
-            int node = nodes.makeOver(Code.TEST, 0, store.popVal(), second);
+            int node = nodes.makeTwo(Code.TEST, 0, store.popVal(), second);
             nodes.third[node] = third;
             nodes.measure(node, third);
             push(node);
@@ -1721,7 +1764,7 @@ public final class CodePress {
             // the first NAME of a close is the last that was linked
             int told = count == 0 ? 0 : store.linkVal[store.chain];
             store.unlink(count);
-            int node = nodes.makeOver(Code.CLOSE, told, body);
+            int node = nodes.makeOne(Code.CLOSE, told, body);
             nodes.more[node] = nodes.keep(count);
             int from = Math.max(0, store.top - count);
             for (int k = from; k < store.top; k++) {
@@ -1736,7 +1779,7 @@ public final class CodePress {
             store.level--;
             int node = store.popVal();
             if (store.level > 0) {
-                push(nodes.makeOver(Code.QUOTE, 0, node));
+                push(nodes.makeOne(Code.QUOTE, 0, node));
                 return;
             }
             if (nodes.size[node] > MOST_SIZE || nodes.height[node] > MOST_HEIGHT) {
@@ -1764,7 +1807,7 @@ public final class CodePress {
             if (tag == Store.PAIR) {
                 int l = lift(store.cellA[val], store.cellB[val], deep + 1);
                 int r = lift(store.cellC[val], store.cellD[val], deep + 1);
-                return nodes.makeOver(Code.PAIR, 0, l, r);
+                return nodes.makeTwo(Code.PAIR, 0, l, r);
             }
             if (tag == Store.TRUTH) {
                 return nodes.make(Code.TRUTH, val, 0);
@@ -1776,7 +1819,7 @@ public final class CodePress {
             boolean lowest = val == LOWEST_INT;
             int l = lift(Store.INT, lowest ? val + 1 : 0, deep + 1);
             int r = lift(Store.INT, lowest ? 1 : -val, deep + 1);
-            return nodes.makeOver(Code.BIN, '-', l, r);
+            return nodes.makeTwo(Code.BIN, '-', l, r);
         }
 
         /** All PARTS of a CODE's E at once, or none. */
@@ -1928,40 +1971,43 @@ public final class CodePress {
             this.going = true;
             this.end = 0;
             this.pc = start;
-            for (int i = 0; i < MOST_MOVES && going; i++) {
+            for (int i = 0; i < MOST_MOVES && going && end == 0; i++) {
                 if (pc < 0 || pc >= Code.ROOM) {
                     going = false;
-                } else if (store.level == 0) {
-                    move();
                 } else {
-                    builder.build(pc);
-                    pc++;
-                    if (builder.full) {
-                        stop(END_FULL);
-                    }
+                    move(pc);
                 }
             }
             return end;
         }
 
-        private void stop(int why) {
-            end = why;
-            going = false;
+        private void move(int i) {
+            pc++;
+            if (store.level > 0) {
+                builder.build(i);
+                if (builder.full) {
+                    end = END_FULL;
+                }
+            } else if (code.isStaged(i)) {
+                moveStaged(i);
+            } else if (code.isTelling(i)) {
+                moveTelling(i);
+            } else {
+                movePlain(i);
+            }
         }
 
         /** Whether one more STEP was allowed. */
         private boolean step() {
             if (steps >= allowed) {
-                stop(END_STEPS);
+                end = END_STEPS;
                 return false;
             }
             steps++;
             return true;
         }
 
-        private void move() {
-            int i = pc;
-            pc++;
+        private void movePlain(int i) {
             switch (code.op[i]) {
                 case Code.NUM:
                     store.push(Store.INT, code.a[i]);
@@ -1983,6 +2029,15 @@ public final class CodePress {
                 case Code.APPLY:
                     apply();
                     break;
+                case Code.PAIR:
+                    makePair();
+                    break;
+                case Code.FST:
+                    store.pushFirst(store.popVal());
+                    break;
+                case Code.SND:
+                    store.pushSecond(store.popVal());
+                    break;
                 case Code.TEST:
                     if (store.popVal() == 0) {
                         pc = code.a[i];
@@ -1991,16 +2046,10 @@ public final class CodePress {
                 case Code.ELSE:
                     pc = code.a[i];
                     break;
-                case Code.ENDFN:
-                case Code.ENDREC:
-                case Code.ENDDEF:
-                    goBack();
-                    break;
                 case Code.STOP:
                     going = false;
                     break;
                 default:
-                    moveTelling(i);
             }
         }
 
@@ -2012,6 +2061,11 @@ public final class CodePress {
                 case Code.REC:
                     makeRecursive(i);
                     break;
+                case Code.ENDFN:
+                case Code.ENDREC:
+                case Code.ENDDEF:
+                    goBack();
+                    break;
                 case Code.BIND:
                     if (step()) {
                         int bound = store.pop();
@@ -2021,38 +2075,26 @@ public final class CodePress {
                 case Code.UNBIND:
                     store.unlink(1);
                     break;
-                case Code.IN:
-                    enterClosed(i);
-                    break;
-                case Code.ENDCLOSE:
-                    store.unlink(code.a[i]);
-                    if (!erased) {
-                        box();
-                    }
-                    break;
-                case Code.PAIR:
-                    makePair();
-                    break;
-                case Code.FST:
-                    int pair = store.popVal();
-                    store.push(store.cellA[pair], store.cellB[pair]);
-                    break;
-                case Code.SND:
-                    int other = store.popVal();
-                    store.push(store.cellC[other], store.cellD[other]);
-                    break;
                 default:
-                    if (!erased) {
-                        moveStaged(i);
-                    }
             }
         }
 
         private void moveStaged(int i) {
+            if (code.op[i] == Code.IN) {
+                enterClosed(i);
+            }
+            if (code.op[i] == Code.ENDCLOSE) {
+                store.unlink(code.a[i]);
+            }
+            if (erased) {
+                return;
+            }
             switch (code.op[i]) {
+                case Code.ENDCLOSE:
+                    box();
+                    break;
                 case Code.OPEN:
-                    int opened = store.popVal();
-                    store.push(store.cellA[opened], store.cellB[opened]);
+                    store.pushFirst(store.popVal());
                     break;
                 case Code.RUN:
                     run();
@@ -2093,7 +2135,7 @@ public final class CodePress {
                     break;
                 default:
                     if (second == 0) {
-                        stop(END_ZERO);
+                        end = END_ZERO;
                     } else {
                         store.push(Store.INT, sign == '/' ? first / second : first % second);
                     }
@@ -2148,7 +2190,7 @@ public final class CodePress {
         /** Whether an APPLICATION or a run may begin; then it is a STEP. */
         private boolean canBegin() {
             if (steps < allowed && begun == MOST_BEGUN) {
-                stop(END_DEEP);
+                end = END_DEEP;
                 return false;
             }
             return step();
@@ -2179,8 +2221,12 @@ public final class CodePress {
             }
             int given = store.pop();
             int f = store.popVal();
-            int told = f < 0 ? ~f : store.cellA[f];
-            int chain = f < 0 ? 0 : store.cellB[f];
+            boolean bare = !store.isCell(f);
+            int told = bare ? ~f : store.cellA[f];
+            int chain = bare ? 0 : store.cellB[f];
+            if (told < 0 || told + 1 >= Code.ROOM) {
+                return;
+            }
             chain = store.link(code.id[told], store.tag[given], store.val[given], chain);
             if (code.op[told + 1] == Code.PARAM) {
                 store.push(Store.FUNCTION, store.cell(told + 1, chain, 0, 0));
@@ -2193,14 +2239,14 @@ public final class CodePress {
             if (!canBegin()) {
                 return;
             }
-            int node = store.cellB[store.popVal()];
-            int start = code.used;
-            goInto(start, 0);
+            store.pushFirst(store.popVal());
+            int node = store.popVal();
+            goInto(code.used, 0);
             if (builder.canPress(node)) {
                 builder.press(node, 0);
                 code.emit(Code.ENDRUN, 0);
             } else {
-                stop(END_FULL);
+                end = END_FULL;
             }
         }
     }
