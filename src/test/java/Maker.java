@@ -256,17 +256,18 @@ final class Maker {
                 if (fuel <= 0 || chance(30)) {
                     return number();
                 }
-                String sign = "+-*-+/%".substring(pick(7)).substring(0, 1);
-                return unit(INT, level, scope, fuel / 2) + gap() + sign + unit(INT, level, scope, fuel / 2);
+                return sum(level, scope, fuel, 2 + pick(chance(20) ? 5 : 1));
             case "bool":
                 if (fuel <= 0 || chance(20)) {
                     return chance(50) ? "true" : "false";
                 }
                 if (chance(50)) {
-                    return unit(INT, level, scope, fuel / 2) + "<" + unit(INT, level, scope, fuel / 2);
+                    return sum(level, scope, fuel / 2, 1 + pick(3)) + "<" + sum(level, scope, fuel / 2, 1 + pick(3));
                 }
-                T a = chance(50) ? INT : BOOL;
-                return unit(a, level, scope, fuel / 2) + "==" + unit(a, level, scope, fuel / 2);
+                if (chance(50)) {
+                    return sum(level, scope, fuel / 2, 1 + pick(2)) + "==" + sum(level, scope, fuel / 2, 1 + pick(4));
+                }
+                return unit(BOOL, level, scope, fuel / 2) + "==" + unit(BOOL, level, scope, fuel / 2);
             case ",":
                 return "(" + expr(t.left, level, scope, fuel / 2) + "," + gap()
                     + expr(t.right, level, scope, fuel / 2) + ")";
@@ -280,6 +281,15 @@ final class Maker {
             default:
                 return close(t, level, scope, fuel);
         }
+    }
+
+    /** So many ints in a row, with signs of both ranks between them and no brackets around. */
+    private String sum(int level, List<Var> scope, int fuel, int n) {
+        StringBuilder b = new StringBuilder(unit(INT, level, scope, fuel / n));
+        for (int i = 1; i < n; i++) {
+            b.append(gap()).append("+-*-+/%*".charAt(pick(8))).append(gap()).append(unit(INT, level, scope, fuel / n));
+        }
+        return b.toString();
     }
 
     private static String endless(T t) {

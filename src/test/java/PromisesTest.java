@@ -73,6 +73,19 @@ public final class PromisesTest {
         for (int what = -1; what <= 4; what++) {
             Press.due("new: count(" + what + ")", p.press.count(what), what < 0 || what > 3 ? -1 : 0);
         }
+        for (int what : new int[] {-1, 8, Integer.MAX_VALUE, Integer.MIN_VALUE}) {
+            Press.due("new: told(" + what + ")", p.press.told(what), -1);
+            Press.due("new: fault(" + what + ")", p.press.fault(what), -1);
+            Press.due("new: out(" + what + ")", p.press.out(what), -1);
+            Press.due("new: count(" + what + ")", p.press.count(what), -1);
+            Press.due("new: type(" + what + ")", p.press.type(what, what), -1);
+            Press.due("new: type(1, " + what + ")", p.press.type(1, what), -1);
+            Press.due("new: load(" + what + ")", p.press.load(what), -2);
+            Press.due("new: ask(" + what + ")", p.press.ask(what, 1, true), -2);
+            if (what != 8) {
+                Press.due("new: ask(0, " + what + ")", p.press.ask(0, what, true), -2);
+            }
+        }
         Press.due("NONE", CodePress.NONE, -1);
     }
 
@@ -354,6 +367,11 @@ public final class PromisesTest {
         gives("10-3-2", "5");
         gives("100/10/5", "2");
         gives("1+2==3", "true");
+        gives("1+2==4", "false");
+        gives("1+2*3<2*3+1+1", "true");
+        gives("9-2*3-1==8/2/2", "true");
+        gives("2*3%4*5-1-1*2+7", "14");
+        gives("1<2-1*1", "false");
         gives("true==false", "false");
         gives("2<1+1", "false");
         gives("7%0", "end 4");
@@ -424,6 +442,16 @@ public final class PromisesTest {
         told("", "{{~{1}}}", 9, false, "0 0 4 0 4 0 4 4");
         told("", "{~{~{~{1}}}}", 9, false, "0 0 1 0 4 0 1 1");
         told("", "let c={1+2} in {~c*~c}", 9, false, "0 1 4 0 4 0 7 3");
+        // a PART counts as it begins: ahead of its own parts, behind what stands to the left of it
+        told("", "{~(let x=1/0 in {1})==1+2}", 9, false, "4 0 1 0 -1 0 0 0");
+        told("", "{~(let x=1/0 in {1})+2*3}", 9, false, "4 0 1 0 -1 0 0 0");
+        told("", "{1+~(let x=1/0 in {1})*2}", 9, false, "4 0 3 0 -1 0 0 0");
+        told("", "{4<1+~(let x=1/0 in {1})*2}", 9, false, "4 0 5 0 -1 0 0 0");
+        told("", "{if ~(let x=1/0 in {true}) then 1 else 2}", 9, false, "4 0 1 0 -1 0 0 0");
+        told("", "{let a=1 in (a,~(let x=1/0 in {1}))}", 9, false, "4 0 4 0 -1 0 0 0");
+        told("", "{close a=close in 1 in fst (2,~(let x=1/0 in {1}))}", 9, false, "4 0 6 0 -1 0 0 0");
+        told("", "{{~(~(let x=1/0 in {{1}}))}}", 9, false, "4 0 2 0 -1 0 0 0");
+        told("", "{rec f(x:int):int.f (~(let x=1/0 in {1}))}", 9, false, "4 0 3 0 -1 0 0 0");
         gives("let x=0-5 in {x}", "{(0-5)}");
         gives("let x=0-2147483647-1 in {x+1}", "{(((0-2147483647)-1)+1)}");
         gives("let x=(true,(0,0-1)) in {x}", "{(true,(0,(0-1)))}");
@@ -509,6 +537,21 @@ public final class PromisesTest {
         Press.due("sixteen DEFS", p.load(b.toString()), 16);
         Press.due("sixteen DEFS again", p.load(b.toString()), 16);
         Press.due("p", gives(p, "p 4 5 6", 9, false), "4");
+    }
+
+    /** One object, all its calls: nothing may be left over from one question to the next. */
+    static void longLife() {
+        Press p = new Press();
+        p.load(POWER);
+        int calls = 8;
+        for (int i = 0; calls < 480; i++) {
+            boolean erased = i % 3 == 2;
+            String text = i % 2 == 0 ? "(rec f(n:int):int.if n<1 then 0 else 1+fst (f (n-1),2)) 80" : "open (run (close in mk 40)) 1";
+            Press.due("round " + i, p.ask(text, 500, erased), 0);
+            Press.due("round " + i, p.press.told(5), i % 2 == 0 ? 80 : 1);
+            Press.due("round " + i, p.press.told(1), i % 2 == 0 ? 162 : 83 + (erased ? 3 : 4));
+            calls += (text.length() + 19) / 20 + 3;
+        }
     }
 
     // ---- ERASED
@@ -654,6 +697,7 @@ public final class PromisesTest {
         building();
         full();
         rooms();
+        longLife();
         erased();
         types();
         values();
