@@ -543,7 +543,8 @@ public final class CodePress {
                 kind = ARROW;
                 pos++;
             } else {
-                kind = SIGNS.indexOf(c) >= 0 ? c : BAD;
+                int sign = c;
+                kind = SIGNS.indexOf(c) >= 0 ? sign : BAD;
             }
         }
     }
@@ -1176,6 +1177,7 @@ public final class CodePress {
                     }
                     break;
                 default:
+                    break;
             }
         }
 
@@ -1217,6 +1219,7 @@ public final class CodePress {
                     checkGiven(code.a[i], code.at[i]);
                     break;
                 default:
+                    break;
             }
         }
 
@@ -1266,6 +1269,7 @@ public final class CodePress {
                     push(types.make(Types.BOX, pop(), Types.INT));
                     break;
                 default:
+                    break;
             }
         }
 
@@ -1646,6 +1650,7 @@ public final class CodePress {
                     buildIf();
                     break;
                 default:
+                    break;
             }
         }
 
@@ -1671,6 +1676,7 @@ public final class CodePress {
                     push(nodes.makeTwo(Code.BIND, untell(1), store.popVal(), second));
                     break;
                 default:
+                    break;
             }
         }
 
@@ -1706,6 +1712,7 @@ public final class CodePress {
                     push(nodes.makeOne(code.op[i], 0, store.popVal()));
                     break;
                 default:
+                    break;
             }
         }
 
@@ -2050,6 +2057,7 @@ public final class CodePress {
                     going = false;
                     break;
                 default:
+                    break;
             }
         }
 
@@ -2076,6 +2084,7 @@ public final class CodePress {
                     store.unlink(1);
                     break;
                 default:
+                    break;
             }
         }
 
@@ -2111,6 +2120,7 @@ public final class CodePress {
                     store.level = 1;
                     break;
                 default:
+                    break;
             }
         }
 

@@ -194,9 +194,22 @@ public final class PromisesTest {
         fault("12ab", "2 at 2");
         fault("let x1=1 in x 1", "2 at 12");
         fault("1>2", "1 at 1");
+        cut("1->2", 2, "fault 1 at 2");
+        cut("1234", 2, "12");
+        cut("let xy=1 in xyz", 14, "1");
+        cut("1==1", 2, "fault 1 at 1");
+        cut("1 (", 2, "1");
         for (String word : "def fn rec let in if then else close run open fst snd true false int bool code box".split(" ")) {
             fault("let " + word + "=1 in 1", "1 at 4");
         }
+    }
+
+    /** A TOKEN ends where the text does, whatever the TAPE has behind it. */
+    static void cut(String text, int n, String want) {
+        Press p = new Press();
+        p.feed(text);
+        int end = p.press.ask(n, 9, false);
+        Press.due(n + " bytes of " + text, end == -1 ? "fault " + p.fault() : p.value(), want);
     }
 
     static void form() {
@@ -554,6 +567,32 @@ public final class PromisesTest {
         }
     }
 
+    /** Much that is typed, built and refused in one life, without harm to the DEFS. */
+    static void crowdedLife() {
+        Press p = new Press();
+        p.load("def f(x:((int,bool),int)):code (int->int)={fn y:int.y};");
+        String types = "fst (1,(fn x:(int,(int,(int,int))).x,fn y:code code code bool.(y,y)))";
+        for (int i = 0; i < 30; i++) {
+            Press.due("types", p.ask(types + times("+" + types, 14), 500, false), 0);
+            Press.due("faults", p.ask("(1,(2,(3,(4,(5,(6,(7,(8,(9,nobody)))))))))", 500, false), -1);
+            Press.due("closes", p.ask("{close a=close in 1,b=close in 2,c=close in 3,d=close in 4 in 5}", 0, false), 0);
+            Press.due("closes", p.value(),
+                "{(close x0=(close in 1),x1=(close in 2),x2=(close in 3),x3=(close in 4) in 5)}");
+            Press.due("f", p.type(1, 0), "((int,bool),int)->code (int->int)");
+            Press.due("a load that is refused", p.load("def f(x:(int,int)):code bool={1};"), -1);
+            Press.due("f", gives(p, "f ((1,true),2)", 9, false), "{(fn x0:int.x0)}");
+        }
+        p = new Press();
+        String twice = "close a=close in 1,b=close in 2,c=close in 3,d=close in 4,e=close in 5,g=close in 6,h=close in 7 in 8";
+        String text = "{(" + twice + ",(" + twice + ",(" + twice + "," + twice + ")))}";
+        for (int i = 0; i < 60; i++) {
+            Press.due("many closes", p.ask(text, 0, false), 0);
+            p.ask("(1,(2,(3,(4,(5,(6,(7,(8,(9,nobody)))))))))", 500, false);
+        }
+        Press.due("many closes", p.value().startsWith("{((close x0=(close in 1),x1="), true);
+        Press.due("many closes", p.value().endsWith(",x27=(close in 7) in 8))))}"), true);
+    }
+
     // ---- ERASED
 
     static void erased() {
@@ -698,6 +737,7 @@ public final class PromisesTest {
         full();
         rooms();
         longLife();
+        crowdedLife();
         erased();
         types();
         values();
