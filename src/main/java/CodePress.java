@@ -1441,8 +1441,10 @@ public final class CodePress {
         }
 
         int makeTwo(int k, int w, int e, int f) {
-            int i = makeOne(k, w, e);
+            int i = make(k, w, 0);
+            first[i] = e;
             second[i] = f;
+            measure(i, e);
             measure(i, f);
             return i;
         }
@@ -1979,23 +1981,22 @@ public final class CodePress {
             this.end = 0;
             this.pc = start;
             for (int i = 0; i < MOST_MOVES && going && end == 0; i++) {
-                if (pc < 0 || pc >= Code.ROOM) {
+                int here = pc;
+                pc++;
+                if (here < 0 || here >= Code.ROOM) {
                     going = false;
+                } else if (store.level == 0) {
+                    move(here);
                 } else {
-                    move(pc);
+                    builder.build(here);
+                    end = builder.full ? END_FULL : 0;
                 }
             }
             return end;
         }
 
         private void move(int i) {
-            pc++;
-            if (store.level > 0) {
-                builder.build(i);
-                if (builder.full) {
-                    end = END_FULL;
-                }
-            } else if (code.isStaged(i)) {
+            if (code.isStaged(i)) {
                 moveStaged(i);
             } else if (code.isTelling(i)) {
                 moveTelling(i);
