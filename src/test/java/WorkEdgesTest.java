@@ -424,6 +424,29 @@ public final class WorkEdgesTest extends Checks {
             "{((rec x0(x1:int):int.(if (x1<1) then 0 else (1+(x0 (x1-1))))) ((rec x2(x3:int):int.(if (x3<1) then 0 else (1+(x2 (x3-1))))) 2))}");
     }
 
+    /** What was told within is known no more behind it, and what was told around it is known again. */
+    static void builtBehind() {
+        String head = "{fn a:int.fn b:int.rec c(d:int):int.let e=5 in ";
+        String want = "{(fn x0:int.(fn x1:int.(rec x2(x3:int):int.(let x4=5 in ";
+        String[][] inner = {{"(let y=1 in y)", "(let x5=1 in x5)"}, {"(fn y:int.y) 1", "((fn x5:int.x5) 1)"},
+            {"(rec y(z:int):int.y z) 1", "((rec x5(x6:int):int.(x5 x6)) 1)"},
+            {"open (close y=close in 1,z=close in 2 in open y+open z)",
+                "(open (close x5=(close in 1),x6=(close in 2) in ((open x5)+(open x6))))"},
+            {"open (close in 1)", "(open (close in 1))"}, {"~(let y=7 in {y})", "7"}, {"~((fn y:int.{y}) 8)", "8"},
+            {"~(open (close y=close in {9},z=close in {6} in {~(open y)+~(open z)}))", "(9+6)"},
+            {"~((rec y(z:int):code int.if z<1 then {z} else y (z-1)) 2)", "0"}, {"fst (1,{let y=2 in ~{y}})", "(fst (1,{(let x5=2 in (~{x5}))}))"},
+            {"~(let y={a+e} in {~y*~y})", "((x0+x4)*(x0+x4))"}, {"(if let y=true in y then a else b)", "(if (let x5=true in x5) then x0 else x1)"}};
+        for (String[] k : inner) {
+            gives(head + k[0] + "+a*b*c d*e}", want + "(" + k[1] + "+(((x0*x1)*(x2 x3))*x4))))))}");
+            Press p = new Press();
+            // the same with a CODE ahead of it, which has NAMES of its own
+            Press.due("behind another CODE", gives(p, "({fn p:int.fn q:int.q-p}," + head + k[0] + "+a*b*c d*e})", 500, false),
+                "({(fn x0:int.(fn x1:int.(x1-x0)))}," + want + "(" + k[1] + "+(((x0*x1)*(x2 x3))*x4))))))})");
+        }
+        gives("let a=1 in (let b=2 in b)*10+(fn b:int.b) 3+open (close b=close in 4 in open b)+a", "28");
+        gives("(fn a:int.(let b=a+1 in let a=b*10 in a+b)+a) 1", "23");
+    }
+
     /** What is worked out is the same when it is BUILT, PRESSED and worked out then. */
     static void pressed() {
         String[] all = {"1+2*3-4/2%3", "7", "true", "2<1", "true==false", "if 1<2 then 3 else 4", "if 2<1 then 3 else 4",
@@ -447,6 +470,77 @@ public final class WorkEdgesTest extends Checks {
                 Press.due("run (close in {" + e + "})", gives(p, "run (close in {" + e + "})", 500, false), "box " + value);
             }
         }
+    }
+
+    // ---- rooms that the limits let fill up
+
+    /** The same of CodePress and of the other reading of the document. */
+    static void asPlain(String program, String text, int steps, String first) {
+        Plain q = new Plain();
+        q.load(program);
+        q.ask(text, steps, false);
+        Press p = new Press();
+        p.load(program);
+        p.ask(text, steps, false);
+        StringBuilder b = new StringBuilder();
+        for (int i = 0; i < 8; i++) {
+            b.append(i > 0 ? " " : "").append(q.told[i]);
+        }
+        Press.due("fault of " + text, p.fault(), "none");
+        Press.due("told of " + text, p.told(), b);
+        Press.due("first told of " + text, (b + " ").startsWith(first + " ") ? first : b, first);
+        Press.due("value of " + text, p.value(), q.valueText);
+    }
+
+    static void rooms() {
+        // 500 STEPS that all leave a pair, a FUNCTION or a BOX behind
+        String pairs = "def f(n:int,p:(int,int)):(int,int)=if n<1 then p else "
+            + "fst (f (n-1) (fst p+1,snd p+n),((1,2),((3,4),((5,6),(7,(8,9))))));";
+        asPlain(pairs, "f 41 (0,0)", 500, "0 495 0 42");
+        asPlain(pairs, "(f 41 (0,0),(1,(2,(3,(4,5)))))", 500, "0 500 0 42");
+        asPlain(pairs, "f 42 (0,0)", 500, "1 500 0 43");
+        String terms = "fst (fst ((1,2),(3,4)))" + times("+fst (snd ((1,2),(3,4)))", 39);
+        asPlain("def f(n:int):int=if n<1 then 0 else " + terms + "+f (n-1);",
+            "f 4+fst (fst ((1,2),(3,4)))" + times("+fst (snd ((5,6),(7,8)))", 4), 500, "0 500 0 5 0 501");
+        String boxes = "def f(n:int,b:box int):box int=if n<1 then b else f (n-1) (close k=close in 1,m=b in open k+open m);";
+        asPlain(boxes, "f 80 (close in 5)", 500, "0 483 0 81");
+        asPlain(boxes, "(f 80 (close in 5),(fn x:int.x,(fn x:int.x,(1,(2,3)))))", 500, "0 490 0 81");
+        String lets = "def f(n:int,x:int):int=if n<1 then x else let a=x+1 in let b=a+1 in let c=a+b in let d=c-b in f (n-1) (d-x+x);";
+        asPlain(lets, "f 83 0", 500, "0 500 0 84 0 83");
+        // four NAMES for each PART
+        String nest = "~c";
+        for (int i = 0; i < 10; i++) {
+            nest = "close a=" + nest + ",b=~c,d=~c,e=~c,g=~c,h=~c,i=~c,j=~c in 1";
+        }
+        String names = "def f(n:int,c:code box int):code box int=if n<1 then c else let z={" + nest + "} in f (n-1) c;";
+        asPlain(names, "f 14 {close in 1}", 500, "0 44 282 15 4 0 2 2");
+        asPlain(names, "f 15 {close in 1}", 500, "3 44 300 15 -1");
+        asPlain(names, "let x={close in 1} in let y=f 14 x in {fn p:int.fn q:int.p-q}", 500, "0 46 287 15 4 0 5 4");
+        asPlain(names, "let x={close in 1} in let y=f 13 x in {fn z:int.open (~y)+z}", 500, "0 43 266 14 4 0 6 5");
+        // all of them pressed
+        String chain = "let c={" + times("close in ", 15) + "1} in {close a=~c,b=~c,d=~c,e=~c,g=~c,h=~c,i=~c,j=~c in 1}";
+        asPlain("", "let b=close in " + chain + " in (run b,run b)", 500, "0 264 278 1 2");
+        String recs = "let c={rec f(x:int):int.if x<1 then x else f x} in {((~c,~c),((~c,~c),((~c,~c),(~c,~c))))}";
+        asPlain("", "run (close in " + recs + ")", 500, "0");
+        // many TYPES in one text
+        String type = "fst (1,fn x:" + times("code ", 18) + "int.1)";
+        typed("(" + type + times("+" + type, 24) + ",{(true,{2})})", "(int,code (bool,code int))");
+        // the densest text: nearly two instructions for a TOKEN, and a FAULT at its end
+        String more = times("int->", 15) + "int";
+        StringBuilder body = new StringBuilder();
+        for (int i = 0; i < 15; i++) {
+            body.append("fn e").append(i).append(":int.");
+        }
+        String dense = "def f(a:int,b:int,c:int,d:int):" + more + "=" + body + "a+e14;";
+        String call = "f" + times(" 1", 19);
+        Press p = new Press();
+        Press.due("a DEF of 39 PARTS", p.load(dense), 1);
+        String text = call + times("+" + call, 37);
+        Press.due("800 TOKENS but one", p.ask(text, 500, false), 1);
+        Press.due("its TYPE", p.type(0, 0), "int");
+        Press.due("with a FAULT", p.ask(text.substring(0, text.length() - 1) + "f", 500, false), -1);
+        Press.due("at its end", p.fault(), "4 at " + (text.length() - 1));
+        Press.due("one of them", gives(p, call, 500, false), "2");
     }
 
     // ---- ERASED
@@ -527,7 +621,9 @@ public final class WorkEdgesTest extends Checks {
         sizes();
         measures();
         built();
+        builtBehind();
         pressed();
+        rooms();
         erased();
         sameErased();
         Press.finish("WorkEdgesTest");
