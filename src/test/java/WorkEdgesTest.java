@@ -377,6 +377,14 @@ public final class WorkEdgesTest extends Checks {
             Press.due("{" + a[0] + "}", p.ask("{" + a[0] + "}", 0, false), 0);
             Press.due("SIZE and HEIGHT of " + a[0], p.press.told(6) + " " + p.press.told(7), a[1]);
             Press.due("PARTS of " + a[0], p.press.told(2), p.press.told(6));
+            int size = p.press.told(6);
+            // BUILT with a { } around it, PRESSED so, and BUILT once more
+            if (!a[0].contains("{")) {
+                String again = "open (run (close in {{" + a[0] + "}}))";
+                Press.due(again, gives(p, again, 500, false), gives(new Press(), "{" + a[0] + "}", 500, false));
+                Press.due("PARTS of " + again, p.press.told(2), 3 * size + 2);
+                Press.due("SIZE and HEIGHT of " + again, p.press.told(6) + " " + p.press.told(7), a[1]);
+            }
         }
         // a DEF's NAME is one; a value is made of PARTS
         told("def f(x:int):int=x;", "{f (f 1)}", 0, false, "0 0 5 0 4 0 5 3");
