@@ -104,6 +104,9 @@ public final class CodePress {
         }
         int end = machine.work(start, steps, erased);
         tell(end);
+        if (hasValue) {
+            tellValue(store.tag[0], store.val[0]);
+        }
         return end;
     }
 
@@ -202,13 +205,10 @@ public final class CodePress {
         tale[7] = 0;
         typeText.clear();
         typeText.putType(typer.result(), 0);
-        if (hasValue) {
-            gaveValue++;
-            tellValue(store.tag[0], store.val[0]);
-        }
     }
 
     private void tellValue(int tag, int val) {
+        gaveValue++;
         tale[4] = tag;
         if (tag == Store.INT || tag == Store.TRUTH) {
             tale[5] = val;
@@ -416,7 +416,7 @@ public final class CodePress {
         }
     }
 
-    /** The TOKENS of a text; the one at hand is told by the fields. */
+    /** The TOKENS of a text, read ahead of the parser, up to the first that is one too many. */
     private static final class Lexer {
         static final int EQUAL = 256;
         static final int ARROW = 257;
@@ -453,8 +453,13 @@ public final class CodePress {
 
         final byte[] text;
         final long[] words = new long[WORDS];
+        final int[] kinds = new int[MOST_TOKENS + 1];
+        final int[] places = new int[MOST_TOKENS + 1];
+        final int[] numbers = new int[MOST_TOKENS + 1];
+        final long[] names = new long[MOST_TOKENS + 1];
         int size;
         int pos;
+        // the TOKEN that was read last
         int kind;
         int at;
         int number;
@@ -476,13 +481,20 @@ public final class CodePress {
             }
         }
 
-        void start(int n) {
+        void read(int n) {
             size = Math.min(n, text.length);
             pos = 0;
-            next();
+            kind = BAD;
+            for (int t = 0; t <= MOST_TOKENS && kind != END; t++) {
+                next();
+                kinds[t] = kind;
+                places[t] = at;
+                numbers[t] = number;
+                names[t] = name;
+            }
         }
 
-        void next() {
+        private void next() {
             while (pos < size && (text[pos] == ' ' || text[pos] == '\n')) {
                 pos++;
             }
@@ -556,7 +568,10 @@ public final class CodePress {
         final Lexer lexer;
         final Code code;
         final Types types;
+        // how many TOKENS stand ahead of the one at hand
         int tokens;
+        int kind;
+        int at;
         int open;
         int fault;
         int place;
@@ -571,10 +586,10 @@ public final class CodePress {
 
         void readProgram(int n) {
             start(n);
-            for (int d = 0; d <= MOST_DEFS && lexer.kind == Lexer.DEF; d++) {
+            for (int d = 0; d <= MOST_DEFS && kind == Lexer.DEF; d++) {
                 readDef(d == MOST_DEFS);
             }
-            if (lexer.kind != Lexer.END) {
+            if (kind != Lexer.END) {
                 fail(FAULT_FORM);
             }
         }
@@ -582,7 +597,7 @@ public final class CodePress {
         void readQuestion(int n) {
             start(n);
             readE();
-            if (lexer.kind != Lexer.END) {
+            if (kind != Lexer.END) {
                 fail(FAULT_FORM);
             }
             code.emit(Code.STOP, n);
@@ -593,14 +608,16 @@ public final class CodePress {
             open = 0;
             fault = 0;
             place = NONE;
-            lexer.start(n);
+            lexer.read(n);
+            kind = lexer.kinds[0];
+            at = lexer.places[0];
         }
 
-        private void fail(int kind) {
+        private void fail(int what) {
             if (fault == 0) {
-                fault = kind;
-                place = lexer.at;
-                lexer.kind = STUCK;
+                fault = what;
+                place = at;
+                kind = STUCK;
             }
         }
 
@@ -609,16 +626,17 @@ public final class CodePress {
             if (fault != 0) {
                 return;
             }
-            if (tokens == MOST_TOKENS) {
+            if (tokens >= MOST_TOKENS) {
                 fail(FAULT_MANY);
                 return;
             }
             tokens++;
-            lexer.next();
+            kind = lexer.kinds[tokens];
+            at = lexer.places[tokens];
         }
 
-        private void expect(int kind) {
-            if (lexer.kind == kind) {
+        private void expect(int wanted) {
+            if (kind == wanted) {
                 take();
             } else {
                 fail(FAULT_FORM);
@@ -626,8 +644,8 @@ public final class CodePress {
         }
 
         /** As expect, of a TOKEN that stands open until shut() is called. */
-        private void expectOpen(int kind) {
-            if (lexer.kind != kind) {
+        private void expectOpen(int wanted) {
+            if (kind != wanted) {
                 fail(FAULT_FORM);
             } else if (open == MOST_OPEN) {
                 fail(FAULT_MANY);
@@ -642,9 +660,9 @@ public final class CodePress {
         }
 
         private void expectName(boolean tooMany) {
-            name = lexer.name;
-            nameAt = lexer.at;
-            if (lexer.kind != Lexer.NAME) {
+            name = lexer.names[tokens];
+            nameAt = at;
+            if (kind != Lexer.NAME) {
                 fail(FAULT_FORM);
             } else if (tooMany) {
                 fail(FAULT_MANY);
@@ -672,7 +690,7 @@ public final class CodePress {
                 expect(':');
                 code.a[param] = readType();
                 params++;
-                more = lexer.kind == ',';
+                more = kind == ',';
                 if (more) {
                     take();
                 }
@@ -700,7 +718,7 @@ public final class CodePress {
 
         private int readType() {
             int sort = readSort();
-            if (lexer.kind != Lexer.ARROW) {
+            if (kind != Lexer.ARROW) {
                 return sort;
             }
             expectOpen(Lexer.ARROW);
@@ -710,7 +728,7 @@ public final class CodePress {
         }
 
         private int readSort() {
-            switch (lexer.kind) {
+            switch (kind) {
                 case Lexer.INT:
                     take();
                     return Types.INT;
@@ -729,9 +747,9 @@ public final class CodePress {
             }
         }
 
-        private int readStaged(int kind) {
-            expectOpen(lexer.kind);
-            int t = types.make(kind, readSort(), Types.INT);
+        private int readStaged(int what) {
+            expectOpen(kind);
+            int t = types.make(what, readSort(), Types.INT);
             shut();
             return t;
         }
@@ -739,7 +757,7 @@ public final class CodePress {
         private int readTypeInside() {
             expectOpen('(');
             int t = readType();
-            if (lexer.kind == ',') {
+            if (kind == ',') {
                 take();
                 t = types.make(Types.PAIR, t, readType());
             }
@@ -749,7 +767,7 @@ public final class CodePress {
         }
 
         private void readE() {
-            switch (lexer.kind) {
+            switch (kind) {
                 case Lexer.FN:
                     readFn();
                     break;
@@ -771,7 +789,7 @@ public final class CodePress {
         }
 
         private void readFn() {
-            int at = lexer.at;
+            int fnAt = at;
             expectOpen(Lexer.FN);
             expectName(false);
             int fn = emitName(Code.FN);
@@ -779,14 +797,14 @@ public final class CodePress {
             code.a[fn] = readType();
             expect('.');
             readE();
-            int end = code.emit(Code.ENDFN, at);
+            int end = code.emit(Code.ENDFN, fnAt);
             code.b[end] = fn;
             code.b[fn] = end;
             shut();
         }
 
         private void readRec() {
-            int at = lexer.at;
+            int recAt = at;
             expectOpen(Lexer.REC);
             expectName(false);
             int rec = emitName(Code.REC);
@@ -801,7 +819,7 @@ public final class CodePress {
             code.a[rec] = types.make(Types.ARROW, code.a[arg], readType());
             expect('.');
             readE();
-            int end = code.emit(Code.ENDREC, at);
+            int end = code.emit(Code.ENDREC, recAt);
             code.a[end] = code.a[rec];
             code.b[rec] = end;
             shut();
@@ -825,13 +843,13 @@ public final class CodePress {
 
         private void readIf() {
             int start = code.used;
-            int ifAt = lexer.at;
+            int ifAt = at;
             expectOpen(Lexer.IF);
             readE();
             expect(Lexer.THEN);
             int test = code.join(Code.TEST, ifAt, start);
             readE();
-            int elseAt = lexer.at;
+            int elseAt = at;
             expect(Lexer.ELSE);
             int middle = code.emit(Code.ELSE, elseAt);
             code.a[test] = middle + 1;
@@ -841,16 +859,16 @@ public final class CodePress {
         }
 
         private void readClose() {
-            int closeAt = lexer.at;
+            int closeAt = at;
             expectOpen(Lexer.CLOSE);
             code.emit(Code.CLOSE, closeAt);
             int last = NONE;
             int kept = 0;
-            boolean more = lexer.kind != Lexer.IN;
+            boolean more = kind != Lexer.IN;
             for (int k = 0; k <= MOST_KEPT && more; k++) {
                 last = readKept(last, k == MOST_KEPT);
                 kept++;
-                more = lexer.kind == ',';
+                more = kind == ',';
                 if (more) {
                     take();
                 }
@@ -893,8 +911,8 @@ public final class CodePress {
                 readA();
                 joinSign(times, timesAt, product);
                 times = NONE;
-                int sign = lexer.kind;
-                int signAt = lexer.at;
+                int sign = kind;
+                int signAt = at;
                 if (sign == '*' || sign == '/' || sign == '%') {
                     times = sign;
                     timesAt = signAt;
@@ -932,14 +950,14 @@ public final class CodePress {
         private void readA() {
             int start = code.used;
             readU();
-            for (int i = 0; i <= MOST_TOKENS && beginsU(lexer.kind); i++) {
-                int at = lexer.at;
+            for (int i = 0; i <= MOST_TOKENS && beginsU(); i++) {
+                int argAt = at;
                 readU();
-                code.join(Code.APPLY, at, start);
+                code.join(Code.APPLY, argAt, start);
             }
         }
 
-        private static boolean beginsU(int kind) {
+        private boolean beginsU() {
             switch (kind) {
                 case Lexer.NUMBER:
                 case Lexer.TRUE:
@@ -959,9 +977,9 @@ public final class CodePress {
         }
 
         private void readU() {
-            switch (lexer.kind) {
+            switch (kind) {
                 case Lexer.NUMBER:
-                    readLeaf(Code.NUM, lexer.number);
+                    readLeaf(Code.NUM, lexer.numbers[tokens]);
                     break;
                 case Lexer.TRUE:
                     readLeaf(Code.TRUTH, 1);
@@ -1000,50 +1018,50 @@ public final class CodePress {
         }
 
         private void readLeaf(int what, int number) {
-            int i = code.emit(what, lexer.at);
+            int i = code.emit(what, at);
             code.a[i] = number;
             take();
         }
 
         private void readInside() {
             int start = code.used;
-            int at = lexer.at;
+            int pairAt = at;
             expectOpen('(');
             readE();
-            if (lexer.kind == ',') {
+            if (kind == ',') {
                 take();
                 readE();
-                code.join(Code.PAIR, at, start);
+                code.join(Code.PAIR, pairAt, start);
             }
             expect(')');
             shut();
         }
 
         private void readQuote() {
-            int at = lexer.at;
-            code.emit(Code.QUOTE, at);
+            int quoteAt = at;
+            code.emit(Code.QUOTE, quoteAt);
             expectOpen('{');
             readE();
             expect('}');
-            code.emit(Code.ENDQUOTE, at);
+            code.emit(Code.ENDQUOTE, quoteAt);
             shut();
         }
 
         private void readSplice() {
-            int at = lexer.at;
-            code.emit(Code.SPLICE, at);
+            int spliceAt = at;
+            code.emit(Code.SPLICE, spliceAt);
             expectOpen('~');
             readU();
-            code.emit(Code.ENDSPLICE, at);
+            code.emit(Code.ENDSPLICE, spliceAt);
             shut();
         }
 
         private void readOne(int what) {
             int start = code.used;
-            int at = lexer.at;
-            expectOpen(lexer.kind);
+            int wordAt = at;
+            expectOpen(kind);
             readU();
-            code.join(what, at, start);
+            code.join(what, wordAt, start);
             shut();
         }
     }
