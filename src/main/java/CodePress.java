@@ -213,7 +213,7 @@ public final class CodePress {
         if (tag == Store.INT || tag == Store.TRUTH) {
             tale[5] = val;
         }
-        if (tag == Store.CODE) {
+        if (tag == Store.CODE && nodes.has(val)) {
             tale[6] = nodes.size[val];
             tale[7] = nodes.height[val];
         }
@@ -255,6 +255,10 @@ public final class CodePress {
             limit = used + HALF;
         }
 
+        private boolean has(int t) {
+            return t >= 0 && t < ROOM;
+        }
+
         int make(int what, int l, int r) {
             int t = used;
             if (used < limit - 1) {
@@ -264,20 +268,40 @@ public final class CodePress {
             kind[t] = what;
             left[t] = l;
             right[t] = two ? r : INT;
-            parts[t] = 1 + parts[l] + (two ? parts[r] : 0);
-            plain[t] = what == PAIR && plain[l] && plain[r];
+            parts[t] = 1 + partsOf(l) + (two ? partsOf(r) : 0);
+            plain[t] = what == PAIR && isPlain(l) && isPlain(r);
             return t;
         }
 
+        int kindOf(int t) {
+            return has(t) ? kind[t] : INT;
+        }
+
+        int leftOf(int t) {
+            return has(t) ? left[t] : INT;
+        }
+
+        int rightOf(int t) {
+            return has(t) ? right[t] : INT;
+        }
+
+        private int partsOf(int t) {
+            return has(t) ? parts[t] : 0;
+        }
+
+        boolean isPlain(int t) {
+            return has(t) && plain[t];
+        }
+
         boolean isWide(int t) {
-            return parts[t] > WIDEST;
+            return has(t) && parts[t] > WIDEST;
         }
 
         private boolean isSame(int s, int t, int deep) {
             if (s == t) {
                 return true;
             }
-            if (deep > DEEPEST || kind[s] != kind[t] || parts[s] != parts[t]) {
+            if (deep > DEEPEST || !has(s) || !has(t) || kind[s] != kind[t] || parts[s] != parts[t]) {
                 return false;
             }
             return isSame(left[s], left[t], deep + 1) && isSame(right[s], right[t], deep + 1);
@@ -363,6 +387,10 @@ public final class CodePress {
             defCount[known] = 0;
         }
 
+        boolean has(int i) {
+            return i >= 0 && i < ROOM;
+        }
+
         boolean isTelling(int i) {
             return op[i] >= FN && op[i] < CLOSE;
         }
@@ -389,13 +417,16 @@ public final class CodePress {
         /** An instruction for a PART whose own parts stand from start on. */
         int join(int what, int place, int start) {
             int i = emit(what, place);
-            begins[start]++;
+            if (has(start)) {
+                begins[start]++;
+            }
             return i;
         }
 
         int defAt(int k) {
-            int i = known * MOST_DEFS + k;
-            return k >= 0 && i < defs.length ? defs[i] : 0;
+            int at = known * MOST_DEFS + k;
+            int i = k >= 0 && k < MOST_DEFS && at < defs.length ? defs[at] : 0;
+            return has(i) ? i : 0;
         }
 
         void addDef(int i) {
@@ -798,7 +829,7 @@ public final class CodePress {
             expect('.');
             readE();
             int end = code.emit(Code.ENDFN, fnAt);
-            code.b[end] = fn;
+            code.a[end] = code.a[fn];
             code.b[fn] = end;
             shut();
         }
@@ -1179,7 +1210,7 @@ public final class CodePress {
                     pushInner(Types.PAIR, i);
                     break;
                 case Code.SND:
-                    int second = types.right[result()];
+                    int second = types.rightOf(result());
                     pushInner(Types.PAIR, i);
                     pop();
                     push(second);
@@ -1207,7 +1238,7 @@ public final class CodePress {
                     break;
                 case Code.ENDFN:
                     dropNames(1);
-                    pushMade(types.make(Types.ARROW, code.a[code.b[i]], pop()), code.at[i]);
+                    pushMade(types.make(Types.ARROW, code.a[i], pop()), code.at[i]);
                     break;
                 case Code.REC:
                     checkWidth(i + 1);
@@ -1220,7 +1251,7 @@ public final class CodePress {
                     break;
                 case Code.ENDREC:
                     dropNames(2);
-                    checkGiven(types.right[code.a[i]], code.at[i]);
+                    checkGiven(types.rightOf(code.a[i]), code.at[i]);
                     push(code.a[i]);
                     break;
                 case Code.BIND:
@@ -1247,7 +1278,7 @@ public final class CodePress {
                     checkKeep(i);
                     break;
                 case Code.KEPT:
-                    if (types.kind[result()] != Types.BOX) {
+                    if (types.kindOf(result()) != Types.BOX) {
                         fail(FAULT_TYPE, code.at[i]);
                     }
                     break;
@@ -1292,7 +1323,7 @@ public final class CodePress {
         }
 
         private void checkWidth(int i) {
-            if (i < Code.ROOM && types.isWide(code.a[i])) {
+            if (code.has(i) && types.isWide(code.a[i])) {
                 fail(FAULT_WIDE, code.at[i]);
             }
         }
@@ -1306,17 +1337,17 @@ public final class CodePress {
         /** For a TYPE of that kind what is within it. */
         private void pushInner(int kind, int i) {
             int t = pop();
-            if (types.kind[t] != kind) {
+            if (types.kindOf(t) != kind) {
                 fail(FAULT_TYPE, code.at[i]);
             }
-            push(types.left[t]);
+            push(types.leftOf(t));
         }
 
         private void useName(int i) {
             int s = findName(code.name[i]);
             if (s != NONE) {
                 int t = toldType[s];
-                if (toldLevel[s] > level || toldLevel[s] < level && !types.plain[t]) {
+                if (toldLevel[s] > level || toldLevel[s] < level && !types.isPlain(t)) {
                     fail(FAULT_LEVEL, code.at[i]);
                 }
                 code.op[i] = Code.VAR;
@@ -1358,10 +1389,10 @@ public final class CodePress {
         private void checkApply(int i) {
             int given = pop();
             int f = pop();
-            if (types.kind[f] != Types.ARROW || !types.isSame(types.left[f], given, 0)) {
+            if (types.kindOf(f) != Types.ARROW || !types.isSame(types.leftOf(f), given, 0)) {
                 fail(FAULT_TYPE, code.at[i]);
             }
-            push(types.right[f]);
+            push(types.rightOf(f));
         }
 
         private void checkDef(int i) {
@@ -1383,7 +1414,7 @@ public final class CodePress {
 
         private void checkKeep(int i) {
             int ahead = code.b[i];
-            for (int k = 0; k <= MOST_KEPT && ahead >= 0; k++) {
+            for (int k = 0; k <= MOST_KEPT && code.has(ahead); k++) {
                 if (code.name[ahead] == code.name[i]) {
                     fail(FAULT_TWICE, code.at[i]);
                 }
@@ -1398,7 +1429,7 @@ public final class CodePress {
                 told++;
             }
             int kept = code.b[i];
-            for (int k = 0; k < code.a[i] && kept >= 0; k++) {
+            for (int k = 0; k < code.a[i] && code.has(kept); k++) {
                 pushName(kept, pop());
                 kept = code.b[kept];
             }
@@ -1435,6 +1466,10 @@ public final class CodePress {
             names = 0;
         }
 
+        boolean has(int i) {
+            return i >= 0 && i < ROOM;
+        }
+
         int make(int k, int w, int m) {
             int i = used;
             if (used < ROOM - 1) {
@@ -1468,8 +1503,10 @@ public final class CodePress {
         }
 
         void measure(int i, int part) {
-            size[i] += size[part];
-            height[i] = Math.max(height[i], 1 + height[part]);
+            if (part >= 0 && part < ROOM) {
+                size[i] += size[part];
+                height[i] = Math.max(height[i], 1 + height[part]);
+            }
         }
 
         int newNames(int k) {
@@ -1488,6 +1525,10 @@ public final class CodePress {
             }
             kept[i] = e;
             return i;
+        }
+
+        int keptAt(int i) {
+            return i >= 0 && i < kept.length ? kept[i] : 0;
         }
     }
 
@@ -1570,18 +1611,27 @@ public final class CodePress {
             return i;
         }
 
+        private boolean isLink(int i) {
+            return i > 0 && i < CHAIN_ROOM;
+        }
+
         int find(int id) {
             int i = chain;
-            for (int k = 0; k < CHAIN_ROOM && i > 0 && linkId[i] != id; k++) {
+            for (int k = 0; k < CHAIN_ROOM && isLink(i) && linkId[i] != id; k++) {
                 i = up[i];
             }
-            return i;
+            return isLink(i) ? i : 0;
         }
 
         void unlink(int k) {
-            for (int i = 0; i < k; i++) {
+            for (int i = 0; i < k && isLink(chain); i++) {
                 chain = up[chain];
             }
+        }
+
+        /** What the NAME that was told last stands for. */
+        int lastVal() {
+            return isLink(chain) ? linkVal[chain] : 0;
         }
 
         int cell(int a, int b, int c, int d) {
@@ -1686,7 +1736,7 @@ public final class CodePress {
                     tellNew(i);
                     break;
                 case Code.ENDFN:
-                    buildFunction(Code.FN, code.a[code.b[i]], 1);
+                    buildFunction(Code.FN, code.a[i], 1);
                     break;
                 case Code.ENDREC:
                     buildFunction(Code.REC, code.a[i], 2);
@@ -1756,7 +1806,7 @@ public final class CodePress {
         /** The first of the last k NAMES that were told, which are known no more. */
         private int untell(int k) {
             store.unlink(k - 1);
-            int told = store.linkVal[store.chain];
+            int told = store.lastVal();
             store.unlink(1);
             return told;
         }
@@ -1765,7 +1815,7 @@ public final class CodePress {
             int count = code.a[i];
             int told = nodes.newNames(count);
             int kept = code.b[i];
-            for (int k = count - 1; k >= 0 && kept >= 0; k--) {
+            for (int k = count - 1; k >= 0 && code.has(kept); k--) {
                 store.chain = store.link(code.id[kept], Store.BUILT, told + k, store.chain);
                 kept = code.b[kept];
             }
@@ -1789,12 +1839,12 @@ public final class CodePress {
         private void buildClose(int count) {
             int body = store.popVal();
             // the first NAME of a close is the last that was linked
-            int told = count == 0 ? 0 : store.linkVal[store.chain];
+            int told = count == 0 ? 0 : store.lastVal();
             store.unlink(count);
             int node = nodes.makeOne(Code.CLOSE, told, body);
             nodes.more[node] = nodes.keep(count);
             int from = Math.max(0, store.top - count);
-            for (int k = from; k < store.top; k++) {
+            for (int k = from; k < store.top && k < store.val.length; k++) {
                 nodes.keep(store.val[k]);
                 nodes.measure(node, store.val[k]);
             }
@@ -1809,7 +1859,7 @@ public final class CodePress {
                 push(nodes.makeOne(Code.QUOTE, 0, node));
                 return;
             }
-            if (nodes.size[node] > MOST_SIZE || nodes.height[node] > MOST_HEIGHT) {
+            if (nodes.has(node) && (nodes.size[node] > MOST_SIZE || nodes.height[node] > MOST_HEIGHT)) {
                 full = true;
             }
             push(node);
@@ -1831,7 +1881,7 @@ public final class CodePress {
             if (full || deep > WIDEST) {
                 return 0;
             }
-            if (tag == Store.PAIR) {
+            if (tag == Store.PAIR && store.isCell(val)) {
                 int l = lift(store.cellA[val], store.cellB[val], deep + 1);
                 int r = lift(store.cellC[val], store.cellD[val], deep + 1);
                 return nodes.makeTwo(Code.PAIR, 0, l, r);
@@ -1851,7 +1901,7 @@ public final class CodePress {
 
         /** All PARTS of a CODE's E at once, or none. */
         boolean canPress(int node) {
-            if (parts + nodes.size[node] > MOST_PARTS) {
+            if (!nodes.has(node) || parts + nodes.size[node] > MOST_PARTS) {
                 return false;
             }
             parts += nodes.size[node];
@@ -1859,7 +1909,7 @@ public final class CodePress {
         }
 
         private void press(int node, int deep) {
-            if (node < 0 || deep > MOST_HEIGHT) {
+            if (!nodes.has(node) || deep > MOST_HEIGHT) {
                 return;
             }
             int start = code.used;
@@ -1915,7 +1965,7 @@ public final class CodePress {
             code.id[fn] = nodes.what[node];
             press(nodes.first[node], deep + 1);
             int end = code.emit(Code.ENDFN, 0);
-            code.b[end] = fn;
+            code.a[end] = code.a[fn];
             code.b[fn] = end;
         }
 
@@ -1943,10 +1993,10 @@ public final class CodePress {
         private void pressClose(int node, int deep) {
             code.emit(Code.CLOSE, 0);
             int row = nodes.more[node];
-            int count = nodes.kept[row];
+            int count = nodes.keptAt(row);
             int last = NONE;
-            for (int k = 0; k < count && row + 1 + k < nodes.kept.length; k++) {
-                press(nodes.kept[row + 1 + k], deep + 1);
+            for (int k = 0; k < count && k < MOST_KEPT; k++) {
+                press(nodes.keptAt(row + 1 + k), deep + 1);
                 int kept = code.emit(Code.KEPT, 0);
                 code.id[kept] = nodes.what[node] + k;
                 code.b[kept] = last;
@@ -2001,7 +2051,7 @@ public final class CodePress {
             for (int i = 0; i < MOST_MOVES && going && end == 0; i++) {
                 int here = pc;
                 pc++;
-                if (here < 0 || here >= Code.ROOM) {
+                if (!code.has(here)) {
                     going = false;
                 } else if (store.level == 0) {
                     move(here);
@@ -2209,7 +2259,7 @@ public final class CodePress {
                 }
             }
             int kept = code.b[i];
-            for (int k = 0; k < count && kept >= 0; k++) {
+            for (int k = 0; k < count && code.has(kept); k++) {
                 int bound = store.pop();
                 store.chain = store.link(code.id[kept], store.tag[bound], store.val[bound], store.chain);
                 kept = code.b[kept];
@@ -2253,7 +2303,7 @@ public final class CodePress {
             boolean bare = !store.isCell(f);
             int told = bare ? ~f : store.cellA[f];
             int chain = bare ? 0 : store.cellB[f];
-            if (told < 0 || told + 1 >= Code.ROOM) {
+            if (!code.has(told) || !code.has(told + 1)) {
                 return;
             }
             chain = store.link(code.id[told], store.tag[given], store.val[given], chain);
@@ -2356,7 +2406,7 @@ public final class CodePress {
             if (over || deep > DEEPEST) {
                 return;
             }
-            switch (types.kind[t]) {
+            switch (types.kindOf(t)) {
                 case Types.INT:
                     put("int");
                     break;
@@ -2365,28 +2415,28 @@ public final class CodePress {
                     break;
                 case Types.CODE:
                     put("code ");
-                    putSort(types.left[t], deep + 1);
+                    putSort(types.leftOf(t), deep + 1);
                     break;
                 case Types.BOX:
                     put("box ");
-                    putSort(types.left[t], deep + 1);
+                    putSort(types.leftOf(t), deep + 1);
                     break;
                 case Types.PAIR:
                     put('(');
-                    putType(types.left[t], deep + 1);
+                    putType(types.leftOf(t), deep + 1);
                     put(',');
-                    putType(types.right[t], deep + 1);
+                    putType(types.rightOf(t), deep + 1);
                     put(')');
                     break;
                 default:
-                    putSort(types.left[t], deep + 1);
+                    putSort(types.leftOf(t), deep + 1);
                     put("->");
-                    putType(types.right[t], deep + 1);
+                    putType(types.rightOf(t), deep + 1);
             }
         }
 
         private void putSort(int t, int deep) {
-            boolean arrow = types.kind[t] == Types.ARROW;
+            boolean arrow = types.kindOf(t) == Types.ARROW;
             if (arrow) {
                 put('(');
             }
@@ -2408,18 +2458,16 @@ public final class CodePress {
                     put(val == 0 ? "false" : "true");
                     break;
                 case Store.PAIR:
-                    put('(');
-                    putValue(store.cellA[val], store.cellB[val], deep + 1);
-                    put(',');
-                    putValue(store.cellC[val], store.cellD[val], deep + 1);
-                    put(')');
+                    putPair(val, deep);
                     break;
                 case Store.FUNCTION:
                     put("fn");
                     break;
                 case Store.BOX:
                     put("box ");
-                    putValue(store.cellA[val], store.cellB[val], deep + 1);
+                    if (store.isCell(val)) {
+                        putValue(store.cellA[val], store.cellB[val], deep + 1);
+                    }
                     break;
                 default:
                     told = 0;
@@ -2429,8 +2477,18 @@ public final class CodePress {
             }
         }
 
+        private void putPair(int cell, int deep) {
+            if (store.isCell(cell)) {
+                put('(');
+                putValue(store.cellA[cell], store.cellB[cell], deep + 1);
+                put(',');
+                putValue(store.cellC[cell], store.cellD[cell], deep + 1);
+                put(')');
+            }
+        }
+
         private void putNode(int node, int deep) {
-            if (over || deep > DEEPEST || node < 0) {
+            if (over || deep > DEEPEST || !nodes.has(node)) {
                 return;
             }
             switch (nodes.kind[node]) {
@@ -2532,9 +2590,9 @@ public final class CodePress {
             put('(');
             putNew(nodes.what[node] + 1);
             put(':');
-            putType(types.left[type], 0);
+            putType(types.leftOf(type), 0);
             put("):");
-            putType(types.right[type], 0);
+            putType(types.rightOf(type), 0);
             put('.');
             putNode(nodes.first[node], deep + 1);
             put(')');
@@ -2563,18 +2621,18 @@ public final class CodePress {
         /** All NAMES of a close have their numbers ahead of its E's. */
         private void putClose(int node, int deep) {
             int row = nodes.more[node];
-            int count = nodes.kept[row];
+            int count = nodes.keptAt(row);
             for (int k = 0; k < count; k++) {
                 number(nodes.what[node] + k);
             }
             put("(close ");
-            for (int k = 0; k < count && row + 1 + k < nodes.kept.length; k++) {
+            for (int k = 0; k < count && k < MOST_KEPT; k++) {
                 if (k > 0) {
                     put(',');
                 }
                 putTold(nodes.what[node] + k);
                 put('=');
-                putNode(nodes.kept[row + 1 + k], deep + 1);
+                putNode(nodes.keptAt(row + 1 + k), deep + 1);
             }
             put(count == 0 ? "in " : " in ");
             putNode(nodes.first[node], deep + 1);
